@@ -1417,21 +1417,26 @@ public final class HoleWater {
             }
             at[joint * THINGS] = stays;
             for (int thing = 1; thing < THINGS && most >= 0; thing++) {
-                int grains = at[joint * THINGS + thing];
-                int left = grains;
-                for (int w = 0; w < world.wayCount; w++) {
-                    if (world.ways[w].from == joint) {
-                        left -= part(grains, gets[w], all);
-                    }
-                }
-                at[joint * THINGS + thing] = stays > 0 ? left : 0;
-                for (int w = 0; w < world.wayCount; w++) {
-                    if (world.ways[w].from == joint) {
-                        int more = stays == 0 && w == most ? left : 0;
-                        enter(w, world.ways[w], thing, part(grains, gets[w], all) + more);
-                    }
+                if (at[joint * THINGS + thing] > 0) {
+                    sendGrains(joint, thing, all, most, world);
                 }
             }
+        }
+
+        /** The WAY with the most WATER comes last: all that is left then goes with it, unless WATER stays. */
+        private void sendGrains(int joint, int thing, int all, int most, World world) {
+            int grains = at[joint * THINGS + thing];
+            int left = grains;
+            for (int w = 0; w < world.wayCount; w++) {
+                if (world.ways[w].from == joint && w != most) {
+                    int goes = part(grains, gets[w], all);
+                    enter(w, world.ways[w], thing, goes);
+                    left -= goes;
+                }
+            }
+            int rest = at[joint * THINGS] > 0 ? part(grains, gets[most], all) : left;
+            enter(most, world.ways[most], thing, rest);
+            at[joint * THINGS + thing] = left - rest;
         }
 
         /** What each WAY from a JOINT gets of its WATER; answers what stays. */
