@@ -165,6 +165,7 @@ public final class PromiseTest {
                 }
                 is("as(" + w + ", " + kind + ")", x.as(w, kind), up < 0 ? KIND : takes[w]);
             }
+            is("wayIs(" + w + ", 0)", x.wayIs(w, 0), w);
             is("wayIs(" + w + ", 5)", x.wayIs(w, 5), takes[w]);
         }
         is("as(6, 0)", x.as(6, 0), BEYOND);
@@ -382,6 +383,16 @@ public final class PromiseTest {
         Due.text(y, 0, "0");
         y.hours(1);
         is("N divides it", y.out(2, 0, 1), 2);
+        HoleWater z = ladder();
+        for (int i = 0; i < 23; i++) {
+            z.way(5, 103, 1, 1);
+        }
+        is("the last of 24 WAYS is a POOL", z.way(4, 2, 1, 2), 23);
+        z.hours(2);
+        is("5 of 10 HELD", z.jointIs(2, 4), 5);
+        z.hours(1);
+        is("8 of 15 HELD", z.jointIs(2, 4), 8);
+        is("wayIs(23, 6)", z.wayIs(23, 6), 7 + 10);
         is("stuff(0, 1) has what is HELD", y.stuff(0, 1), 8);
         is("count(11) has what is HELD", y.count(11), 8);
     }
@@ -485,13 +496,18 @@ public final class PromiseTest {
         x.way(0, 103, 4, 7);
         x.way(4, 102, 1, 3);
         x.fade(1, 5);
+        x.put(0, 0, 4000);
         x.put(0, 1, 5000);
+        x.put(0, 2, 6000);
+        x.put(0, 3, 7000);
         for (int i = 0; i < 20; i++) {
-            int sum = 0;
-            for (int what = 1; what < 7; what++) {
-                sum += x.stuff(1, what);
+            for (int colour = 0; colour < 4; colour++) {
+                int sum = 0;
+                for (int what = 1; what < 7; what++) {
+                    sum += x.stuff(colour, what);
+                }
+                is("all GRAINS of " + colour + ", HOUR " + i, sum, x.stuff(colour, 0));
             }
-            is("all GRAINS, HOUR " + i, sum, x.stuff(1, 0));
             int water = x.count(10) + x.count(11) + x.jointIs(2, 5) + x.jointIs(3, 5);
             is("all WATER, HOUR " + i, water, 10 * i);
             x.hours(1);
@@ -655,9 +671,11 @@ public final class PromiseTest {
         is("rain(-1)", x.rain(-1), BEYOND);
         String[] texts = {"2+3*4", "2*3+4", "20-5-4", "20/3/2", "2*(3+4)", "7/2*2", "7/0", "(3-7)/2+9", "3-7", "999+1", "0*5",
             "007", "1?1>2;2?2=2;3", "1?1>2;2?2<2", "1?1<2&2<1;5", "1?0=0&3>2;5", "999*999*999*999/999/999", "(0-7)/2+100",
-            "((((9))))-(1-(2-(3-(4))))"};
+            "((((9))))-(1-(2-(3-(4))))",
+            "1?2>2;8", "1?2<2;8", "1?2=3;8", "1?3=2;8"};
         int[] due = {14, 10, 11, 3, 14, 6, 0, 7, 0, 999, 0,
-            7, 2, 0, 5, 1, 0, 97, 11};
+            7, 2, 0, 5, 1, 0, 97, 11,
+            8, 8, 8, 8};
         due[16] = Math.max(0, Math.min(999, 999 * 999 * 999 * 999 / 999 / 999));
         for (int i = 0; i < texts.length; i++) {
             Due.text(x, 0, texts[i]);
@@ -840,6 +858,24 @@ public final class PromiseTest {
         is("span(0, 3, 1, 0)", x.span(0, 3, 1, 0), NONE);
         x.put(0, 1, 1);
         is("span, put twice", x.span(0, 2, 1, 1), STATE);
+        is("span, by PUT 0 and LOOK 1", x.span(0, 2, 0, 1), 2);
+        HoleWater y = pairs();
+        y.put(0, 0, 100);
+        y.hours(1);
+        y.bottle(2, 0);
+        y.hours(1);
+        y.bottle(2, 0);
+        is("span, the latest ahead is LOOK 0", y.span(0, 2, 0, 0), 1);
+        y.hours(1);
+        y.bottle(2, 0);
+        is("span, one that SAW nothing later", y.span(0, 2, 0, 0), 1);
+        y.put(0, 0, 100);
+        is("span, put twice, first as PUT 0", y.span(0, 2, 0, 1), STATE);
+        HoleWater z = pairs();
+        z.put(0, 0, 100);
+        z.hours(2);
+        z.bottle(2, 0);
+        is("span, LOOK 0 SAW", z.span(0, 2, 0, 1), 2);
         x.put(1, 0, 1);
         is("span, put elsewhere too", x.span(0, 2, 0, 1), STATE);
     }
@@ -913,6 +949,35 @@ public final class PromiseTest {
         x.put(1, 0, 100);
         x.bottle(2, 0);
         is("MAY of b at x", x.crosses(0, 2, 1, 3), 0);
+        is("MAY of a at y", x.crosses(1, 3, 0, 2), 0);
+        linesThatTouch();
+    }
+
+    /** Two HOLES, two SPRINGS, SURE of 0 at 2 and of 1 at 3, at places with which the lines cross, touch, or don't. */
+    private static void linesThatTouch() {
+        int[][] places = {
+            {10, 90, 60, 90, 60, 10, 10, 10, 1}, {10, 90, 10, 50, 10, 10, 60, 10, 0}, {10, 90, 60, 90, 10, 10, 10, 50, 0},
+            {10, 90, 60, 90, 30, 50, 0, 10, 0}, {30, 50, 10, 90, 90, 10, 50, 10, 0}, {60, 90, 35, 50, 10, 10, 99, 10, 0},
+            {10, 90, 10, 80, 10, 10, 10, 20, 0}, {10, 90, 10, 90, 60, 10, 70, 10, 0}, {10, 90, 60, 90, 30, 10, 30, 10, 0},
+            {0, 99, 99, 99, 99, 0, 0, 0, 1}, {60, 90, 10, 90, 10, 10, 60, 10, 1}, {10, 30, 11, 99, 12, 20, 11, 0, 1},
+            {10, 90, 60, 90, 34, 50, 10, 10, 0}, {10, 90, 60, 90, 36, 48, 10, 10, 1}, {60, 90, 10, 90, 35, 50, 60, 10, 0}};
+        for (int[] p : places) {
+            HoleWater x = new HoleWater();
+            x.joint(0, p[0], p[1]);
+            x.joint(0, p[2], p[3]);
+            x.joint(2, p[4], p[5]);
+            x.joint(2, p[6], p[7]);
+            x.way(0, 2, 1, 1);
+            x.way(0, 103, 1, 1);
+            x.put(0, 1, 100);
+            x.put(1, 2, 100);
+            x.hours(2);
+            is("SURE of 0 at 2, bottle", x.bottle(2, 1), 100);
+            is("SURE of 1 at 3, bottle", x.bottle(3, 2), 100);
+            String where = java.util.Arrays.toString(p);
+            is("crosses of " + where, x.crosses(0, 2, 1, 3), p[8]);
+            is("crosses, the other way round, of " + where, x.crosses(1, 3, 0, 2), p[8]);
+        }
     }
 
     /** HOLES 0 .. 5 and SPRINGS 6 .. 11; each of the pairs (HOLE, SPRING) has a WAY. */
