@@ -16,6 +16,7 @@ public final class ModelTest {
         9999, 10000, 65535, 65536, -65536, -1000001};
     private static final String[] DOING = {"hours", "put", "bottle", "bag", "way", "pours", "text", "hours", "bottle", "bag"};
     private static final String[] LOOKING = {"hours", "bottle", "bag", "bottle", "flood"};
+    private static final String[] POURING = {"place", "place", "move", "pours", "pours", "put", "putIs", "hours"};
     private static final String[] ASKING = {"joined", "musts", "crosses", "rooms", "night", "span", "never", "share"};
     private static final List<String> UNSETTLING = List.of("put", "pours", "way", "joint", "text", "feed", "restore");
     private static final List<Method> CALLED = new ArrayList<>();
@@ -24,12 +25,15 @@ public final class ModelTest {
     private final HoleWater program = new HoleWater();
     private final PlainModel model = new PlainModel();
     private final List<String> story = new ArrayList<>();
-    /** 0 many HOLES and SPRINGS, 1 many ROOMS, 2 long WAYS, 3 a late start, 4 one COLOUR a HOLE and many LOOKS. */
+    /**
+     * 0 many HOLES and SPRINGS, 1 many ROOMS, 2 long WAYS, 3 a late start, 4 one COLOUR a HOLE and many LOOKS,
+     * 5 SHEETS and PUTS.
+     */
     private final int style;
 
     private ModelTest(long seed) {
         random = new Random(seed);
-        style = random.nextInt(5);
+        style = random.nextInt(6);
     }
 
     public static void main(String[] args) throws ReflectiveOperationException {
@@ -39,7 +43,7 @@ public final class ModelTest {
             }
         }
         CALLED.sort(Comparator.comparing(Method::getName));
-        int runs = args.length > 0 ? Integer.parseInt(args[0]) : 400;
+        int runs = args.length > 0 ? Integer.parseInt(args[0]) : 600;
         int wrong = 0;
         for (int seed = 1; seed <= runs && wrong < 3; seed++) {
             wrong += new ModelTest(seed).run(seed) ? 0 : 1;
@@ -64,13 +68,13 @@ public final class ModelTest {
             String name = method.getName();
             // a run that only asks soon has nothing left to ask: the calls that make things happen come more often
             if (random.nextInt(3) == 0) {
-                String[] busy = style == 4 ? LOOKING : DOING;
+                String[] busy = style == 4 ? LOOKING : style == 5 ? POURING : DOING;
                 name = busy[random.nextInt(busy.length)];
             }
             if (style == 4 && UNSETTLING.contains(name) && random.nextInt(20) > 0) {
                 name = ASKING[random.nextInt(ASKING.length)];
             }
-            if (name.equals("restore") && random.nextInt(4) > 0) {
+            if ((name.equals("restore") || name.equals("sheet") && style == 5) && random.nextInt(4) > 0) {
                 name = "stuff";
             }
             if (name.equals("text") && !feedText(seed) || name.equals("check") && !tellTrue(seed)) {
@@ -198,6 +202,9 @@ public final class ModelTest {
             int length = 1 + random.nextInt(style == 2 ? 20 : 4);
             int n = 1 + random.nextInt(random.nextBoolean() ? 20 : 99);
             calls.add(new Object[] {"way", random.nextInt(random.nextInt(3) == 0 ? 6 : 5), from * 100 + to, length, n});
+        }
+        for (int i = 0; i < 4 && style == 5; i++) {
+            calls.add(new Object[] {"sheet", i, new int[] {8, 16, 32}[random.nextInt(2)], random.nextInt(25)});
         }
         if (style == 3) {
             for (int i = 0; i < 16; i++) {
