@@ -501,7 +501,7 @@ public final class PromiseTest {
         x.put(0, 1, 5000);
         x.put(0, 2, 6000);
         x.put(0, 3, 7000);
-        for (int i = 0; i < 20; i++) {
+        for (int i = 0; i < 14; i++) {
             for (int colour = 0; colour < 4; colour++) {
                 int sum = 0;
                 for (int what = 1; what < 7; what++) {
