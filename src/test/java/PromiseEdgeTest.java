@@ -319,6 +319,18 @@ public final class PromiseEdgeTest {
         of("Promise 8: the fewest HOURS: a long chain");
         is("quick(0, 15)", c.quick(0, 15), 300);
         is("quick(1, 15)", c.quick(1, 15), 280);
+        of("Promise 7: by the last of 24 WAYS");
+        HoleWater full = ladder();
+        for (int w = 0; w < 23; w++) {
+            full.way(5, 2, 1, 1);
+        }
+        is("ahead of it", full.hangs(2, true), 0);
+        is("the last", full.way(3, 2, 3, 1), 23);
+        is("hangs(2, true)", full.hangs(2, true), 1);
+        is("hangs(2, false)", full.hangs(2, false), 0);
+        of("Promise 8: by the last of 24 WAYS");
+        is("quick(0, 2)", full.quick(0, 2), 2);
+        is("quick(0, 3)", full.quick(0, 3), NONE);
         of("Promise 7: BEYOND");
         is("-1", y.hangs(-1, true), BEYOND);
         is("the last", y.hangs(3, true), 0);
@@ -686,6 +698,21 @@ public final class PromiseEdgeTest {
         y.hours(3);
         y.put(0, 3, 100);
         is("at HOLES, in WAYS, HELD", y.spill(0, 8, 2, 60), 8);
+        HoleWater other = apart();
+        other.joint(ROOM, 1, 50);
+        other.joint(HOLE, 1, 60);
+        other.way(0, 402, 1, 1);
+        other.way(0, 504, 1, 1);
+        Due.text(other, 0, "0?k=5;10");
+        other.put(1, 3, 100);
+        other.put(5, 3, 100);
+        is("at another HOLE: none of it comes", other.spill(0, 8, 3, 60), 0);
+        is("at another HOLE: the 8 alone come", other.spill(0, 8, 2, 60), 8);
+        Due.text(other, 0, "10?d+h=0;0");
+        other.hours(2);
+        is("GRAINS are in the WAY from the ROOM", other.stuff(3, 1), 100);
+        is("on the way to the SPRING: none of it comes", other.spill(0, 8, 2, 60), 0);
+        is("first: none of it comes", other.first(0, 8, 2), NONE);
         y.fade(0, 99);
         is("FADE of another COLOUR", y.spill(0, 8, 2, 60), 8);
         y.fade(3, 99);
@@ -1025,6 +1052,8 @@ public final class PromiseEdgeTest {
             y.bottle(2, 0);
         }
         is("60", y.never(0, 2), 60);
+        is("span: none of 60 SAW it", y.span(0, 2, 0, 1), NONE);
+        is("share: none of 60 SAW it", y.share(0), 1);
     }
 
     private static void span() {
@@ -1087,6 +1116,22 @@ public final class PromiseEdgeTest {
         is("end 1", w.span(0, 2, 2, 1), 2);
         w.put(1, 2, 1);
         is("put once in each of two HOLES", w.span(0, 2, 2, 1), STATE);
+        of("Promise 29: by LOOK 0");
+        HoleWater zero = apart();
+        zero.hours(3);
+        zero.put(0, 2, 100);
+        zero.hours(2);
+        zero.bottle(2, 2);
+        is("it SAW: end 1", zero.span(0, 2, 2, 1), 2);
+        is("it SAW: end 0", zero.span(0, 2, 2, 0), 0);
+        HoleWater vain = apart();
+        vain.put(0, 2, 100);
+        vain.hours(1);
+        vain.bottle(2, 2);
+        vain.hours(2);
+        vain.bag(2, 2, 9);
+        is("it SAW nothing: end 1", vain.span(0, 2, 2, 1), 3);
+        is("it SAW nothing: end 0", vain.span(0, 2, 2, 0), 1);
         of("Promise 29: BEYOND: JOINTS, COLOUR, end; KIND as joined()");
         is("HOLE -1", x.span(-1, 2, 1, 1), BEYOND);
         is("HOLE 4", x.span(4, 2, 1, 1), BEYOND);
@@ -1134,6 +1179,20 @@ public final class PromiseEdgeTest {
         x.put(0, 1, 5);
         x.bag(3, 1, 24);
         is("MAY out of FLOOD: no more", x.musts(0, 0), NONE);
+        of("Promise 30: SPRING 0 and the last HOLE");
+        HoleWater y = new HoleWater();
+        y.joint(SPRING, 0, 10);
+        y.joint(HOLE, 0, 11);
+        y.way(0, 100, 1, 1);
+        y.put(1, 0, 100);
+        y.bottle(0, 0);
+        y.flood(true);
+        y.hours(2);
+        y.bottle(0, 0);
+        is("the HOLE", y.musts(0, 0), 1);
+        is("the SPRING", y.musts(0, 1), 0);
+        is("11 above 10", y.musts(0, 2), 1);
+        is("i 1", y.musts(1, 0), NONE);
         of("Promise 30: BEYOND: i below 0, what");
         is("i -1", x.musts(-1, 0), BEYOND);
         is("i MIN", x.musts(MIN, 0), BEYOND);
@@ -1199,6 +1258,7 @@ public final class PromiseEdgeTest {
             {20, 60, 40, 40, 60, 20, 20, 20, 0}, {20, 60, 41, 41, 60, 20, 20, 20, 1}, {20, 60, 39, 39, 60, 20, 20, 20, 0},
             {20, 60, 60, 60, 60, 20, 40, 40, 0}, {20, 60, 60, 60, 60, 20, 39, 39, 1}, {20, 60, 60, 60, 60, 20, 41, 41, 0},
             {50, 50, 50, 60, 50, 10, 50, 20, 0}, {50, 60, 50, 60, 10, 10, 90, 10, 0}, {10, 60, 90, 60, 50, 10, 50, 10, 0},
+            {5, 5, 3, 5, 6, 2, 6, 3, 1}, {2, 3, 3, 3, 6, 2, 7, 0, 1}, {5, 4, 4, 4, 3, 3, 4, 1, 1}, {3, 2, 3, 4, 6, 1, 5, 1, 1},
             {40, 40, 60, 60, 60, 20, 20, 20, 0}, {39, 41, 60, 60, 60, 20, 20, 20, 1}, {41, 39, 60, 60, 60, 20, 20, 20, 0}};
         for (int[] p : places) {
             HoleWater x = new HoleWater();
@@ -1594,7 +1654,7 @@ public final class PromiseEdgeTest {
         x.fade(0, 30);
         x.town(5, true);
         x.flood(false);
-        x.hours(20);
+        x.hours(40);
         x.bottle(7, 3);
         Due.text(x, 0, "1");
         Due.text(x, 0, "1");

@@ -132,7 +132,7 @@ public final class RefusedTest {
         add("as(10, 0)", BEYOND, x -> x.as(10, 0));
         add("as(0, 6)", BEYOND, x -> x.as(0, 6));
         add("as(0, 1), a WAY is no OPEN", KIND, x -> x.as(0, 1));
-        add("as(1, 3), an OPEN is no OVERFLOW", KIND, x -> x.as(1, 3));
+        add("as(8, 3), an OPEN is no OVERFLOW", KIND, x -> x.as(8, 3));
         add("as(3, 2), an OVERFLOW is no SIEVE", KIND, x -> x.as(3, 2));
         add("as(7, 4), a BLIND one is no POOL", KIND, x -> x.as(7, 4));
         add("as: BEYOND ahead of KIND", BEYOND, x -> x.as(10, 5));

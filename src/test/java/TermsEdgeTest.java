@@ -45,6 +45,7 @@ public final class TermsEdgeTest {
         floodPutsLooks();
         looksSee();
         looksSay();
+        lastOfSixty();
         fewestRooms();
         nights();
         voices();
@@ -425,6 +426,25 @@ public final class TermsEdgeTest {
         is("GRAINS OUT at the SEA", y.out(3, 0, 1), 4);
         is("stuff(0, 5)", y.stuff(0, 5), 5);
         is("stuff(0, 6)", y.stuff(0, 6), 4);
+        of("Terms 2 (3): all COLOURS, and each just once");
+        HoleWater all = ladder(10);
+        all.way(0, 2, 1, 1);
+        all.way(0, 3, 1, 1);
+        for (int colour = 0; colour < 4; colour++) {
+            all.put(0, colour, 10 + 2 * colour);
+        }
+        all.hours(2);
+        for (int colour = 0; colour < 4; colour++) {
+            is("COLOUR " + colour + " OUT at the SPRING", all.out(2, colour, 1), 5 + colour);
+            is("COLOUR " + colour + " OUT at the SEA", all.out(3, colour, 1), 5 + colour);
+            is("COLOUR " + colour + ": none stays", all.grains(2, colour) + all.grains(3, colour), 0);
+        }
+        all.hours(1);
+        for (int colour = 0; colour < 4; colour++) {
+            is("COLOUR " + colour + ": no more comes", all.out(2, colour, 1) + all.out(3, colour, 1), 0);
+            is("COLOUR " + colour + " at SPRINGS", all.stuff(colour, 5), 5 + colour);
+            is("COLOUR " + colour + " at SEAS", all.stuff(colour, 6), 5 + colour);
+        }
         of("Terms 2 (1), (4): what comes to a ROOM goes on in the same HOUR");
         HoleWater z = ladder(10);
         z.way(0, 1, 1, 1);
@@ -566,6 +586,13 @@ public final class TermsEdgeTest {
         y.put(0, 0, 1);
         y.hours(2);
         is("6 and 4: with the WAY", y.out(3, 0, 1), 1);
+        HoleWater part = ladder(10);
+        part.way(0, 3, 1, 1);
+        part.way(3, 2, 1, 4);
+        part.put(0, 0, 11);
+        part.hours(2);
+        is("4 and 6 of 11, and 1 left over: the WAY", part.out(3, 0, 1), 4);
+        is("4 and 6 of 11, and 1 left over: the OVERFLOW", part.out(2, 0, 1), 7);
         of("Terms 2 (4): of several the first");
         HoleWater z = ladder(10);
         z.way(0, 3, 1, 1);
@@ -685,6 +712,10 @@ public final class TermsEdgeTest {
         is("two TESTS in one", cases("1?1<2<3"), -10 - 5);
         is("a TEST in ( )", cases("1?(1<2)"), -10 - 4);
         is("a TEST without ?", cases("1<2"), -10 - 1);
+        is("a NAME in place of the sign", cases("1?1h=2"), -10 - 3);
+        is("( in place of the sign", cases("1?1(2)=2"), -10 - 3);
+        is("( behind ( ) in place of the sign", cases("1?(1)(2)=2"), -10 - 5);
+        is("a digit behind a NAME in place of the sign", cases("1?h1=2"), -10 - 3);
         of("Terms 3: what it tells is the SUM of the first CASE whose TESTS all hold");
         is("the first", tells("1?2=2;5"), 1);
         is("the second", tells("1?2=3;5"), 5);
@@ -976,6 +1007,25 @@ public final class TermsEdgeTest {
         more[0] = 5;
         is("5, 25 HOURS ago, in 24", stream(more).bag(2, 0, 24), 0);
         is("a BAG of more HOURS than there were", stream(5).bag(2, 0, 24), 1);
+        of("Terms 4: SEEN of a BOTTLE, and of a BAG");
+        HoleWater unlike = stream(5);
+        Due.text(unlike, 1, "6-s");
+        is("a BOTTLE: 5 of 6", unlike.bottle(2, 0), 0);
+        is("a BAG of 1 HOUR: 5 of 5", unlike.bag(2, 0, 1), 1);
+        Due.text(unlike, 1, "5+s");
+        is("a BOTTLE: 5 of 5", unlike.bottle(2, 0), 5);
+        is("a BAG of 1 HOUR: 5 of 6", unlike.bag(2, 0, 1), 0);
+        Due.text(unlike, 1, "6+s");
+        is("s is 0 of a BOTTLE: 5 of 6", unlike.bottle(2, 0), 0);
+        Due.text(unlike, 1, "4+s");
+        is("s is 1 of a BAG of 24 HOURS: 5 of 5", unlike.bag(2, 0, 24), 1);
+        Due.text(unlike, 1, "w-5");
+        is("w of the latest HOUR, 10: 5 of 5", unlike.bag(2, 0, 24), 1);
+        Due.text(unlike, 1, "w-4");
+        is("w of the latest HOUR, 10: 5 of 6", unlike.bag(2, 0, 24), 0);
+        Due.text(unlike, 1, "5+c");
+        is("c 0: 5 of 5", unlike.bottle(2, 0), 5);
+        of("Terms 4: LOOKS ahead of all HOURS");
         is("a BAG ahead of all HOURS", ladder().bag(2, 0, 24), 0);
         is("a BOTTLE ahead of all HOURS", ladder().bottle(2, 0), 0);
     }
@@ -1059,6 +1109,34 @@ public final class TermsEdgeTest {
         is("FLOOD as it was at the LOOK", d.joined(0, 2, 2), 3);
     }
 
+    /** 60 LOOKS, of which the last alone SAW: it counts as any other. */
+    private static void lastOfSixty() {
+        of("Terms 4: of 60 LOOKS the last one");
+        HoleWater x = two();
+        x.put(0, 0, 100);
+        x.hours(2);
+        for (int l = 0; l < 59; l++) {
+            x.bottle(3, 1);
+        }
+        is("ahead of it", x.joined(0, 2, 0), 0);
+        is("night ahead of it", x.night(1, 2, 0), 2);
+        is("the last", x.bottle(2, 0), 100);
+        is("joined", x.joined(0, 2, 0), 3);
+        is("never", x.never(0, 2), 0);
+        is("span, end 1", x.span(0, 2, 0, 1), 2);
+        is("span, end 0", x.span(0, 2, 0, 0), 0);
+        is("share", x.share(0), 0);
+        is("count(5)", x.count(5), 1);
+        is("lookIs(59, 4)", x.lookIs(59, 4), 1);
+        is("rooms", x.rooms(3, 12), 1);
+        is("night: HOLE 1", x.night(1, 2, 1), 2);
+        x.town(2, true);
+        is("night: no HOLE 0 any more", x.night(2, 1, 0), NONE);
+        is("musts", x.musts(0, 0), NONE);
+        is("crosses", x.crosses(0, 2, 1, 3), 0);
+        is("the 61st", x.bag(2, 0, 24), FULL);
+    }
+
     /** HOLES 0 .. 5, SPRINGS 6 .. 11; HOLE h has a WAY to SPRING 6 + s where bit s of ways[h] is set. */
     private static HoleWater field(int... ways) {
         HoleWater x = new HoleWater();
@@ -1118,6 +1196,23 @@ public final class TermsEdgeTest {
         is("pairs of which NOTHING is SAID may be in one", free.rooms(3, 3 << 6), 1);
         free.bottle(7, 0);
         is("one NOT YET parts them", free.rooms(3, 3 << 6), 2);
+        of("Terms 4: one pair SURE among more");
+        HoleWater one = new HoleWater();
+        one.joint(SPRING, 0, 10);
+        one.joint(SPRING, 0, 10);
+        one.joint(HOLE, 0, 90);
+        one.joint(HOLE, 0, 90);
+        one.way(0, 200, 1, 1);
+        one.put(2, 0, 100);
+        one.hours(2);
+        is("SPRING 0", one.bottle(0, 0), 100);
+        is("the first of 2 with the first of 2", one.rooms(12, 3), 1);
+        is("the first alone", one.rooms(4, 1), 1);
+        is("the others alone", one.rooms(8, 3) + one.rooms(12, 2), 0);
+        is("SPRING 0 is no pair for a NIGHT", one.night(1, 1, 2), 2);
+        one.town(0, true);
+        is("LOOK 0 at a TOWN: HOLE 3 alone may", one.night(1, 1, 1), 8);
+        is("LOOK 0 at a TOWN: no two may", one.night(2, 1, 0), NONE);
         of("Terms 4: a pair in two ROOMS");
         HoleWater z = field(3, 6);
         lookAll(z, 2, 7);
