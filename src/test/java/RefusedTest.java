@@ -3,8 +3,8 @@ import java.util.List;
 
 /**
  * "One that answers an ERROR changes nothing but what told() tells": each refused call, at the first value that is not
- * taken and far beyond, with the ERROR that is due and the order in which ERRORS are asked; then all that the object can
- * be asked is as on one that was never called so.
+ * taken and far beyond, with the ERROR that is due and the order in which ERRORS are asked; then a wide asking (what
+ * there is, what comes, the IMAGE) answers as on an object that was never called so.
  */
 public final class RefusedTest {
     private static final int BEYOND = Due.BEYOND;

@@ -1,7 +1,7 @@
 import java.util.ArrayList;
 import java.util.List;
 
-/** Objects in states worth asking about, and all that can be asked of them, in parts that keep within 512 calls. */
+/** Objects in states worth asking about, and a wide asking of them, in parts that keep within 512 calls. */
 enum Scene {
     /** A new object. */
     EMPTY,
@@ -10,7 +10,7 @@ enum Scene {
     /** No room anywhere, NOW is 999: HOLES 0 .. 5, ROOMS 6, 7, SPRINGS 8 .. 13, SEAS 14, 15. */
     FULL;
 
-    static final int PARTS = 9;
+    static final int PARTS = 10;
 
     HoleWater make() {
         HoleWater x = new HoleWater();
@@ -120,6 +120,7 @@ enum Scene {
             case 5 -> settings(x, all);
             case 6 -> sheets(x, all);
             case 7 -> whatComes(x, all);
+            case 8 -> restOfLooks(x, all);
             default -> theImage(x, all);
         }
         return all;
@@ -156,10 +157,21 @@ enum Scene {
             all.add(x.putIs(p, 0) + 100 * x.putIs(p, 1));
             all.add(x.putIs(p, 2));
         }
-        // of the many LOOKS of a full object only some parts, so that the calls suffice
         int looks = x.count(4);
         for (int l = 0; l < looks; l++) {
             all.add(x.lookIs(l, 0) + 100 * x.lookIs(l, 4));
+        }
+    }
+
+    private static void restOfLooks(HoleWater x, List<Integer> all) {
+        int puts = x.count(3);
+        for (int p = 0; p < puts; p++) {
+            all.add(x.putIs(p, 3));
+        }
+        int looks = x.count(4);
+        for (int l = 0; l < looks; l++) {
+            all.add(x.lookIs(l, 1) + 100 * x.lookIs(l, 2));
+            all.add(x.lookIs(l, 3) + 100 * x.lookIs(l, 5));
         }
     }
 
