@@ -49,6 +49,12 @@ public final class HoleWater {
     private static final int MOST_CASES = 6;
     private static final int MOST_OPEN = 4;
     private static final int MOST_DIGITS = 3;
+    /** Steps of a TEXT: NUMBERS are themselves, NAMES stand above them, a sign is below 0. */
+    private static final int FIRST_NAME = 1000;
+    private static final int TEST_ENDS = -'&';
+    private static final int CASE_ENDS = -';';
+    /** No byte makes more than one step; the last CASE ends without a byte. */
+    private static final int MOST_STEPS = MOST_BYTES + 1;
     private static final int RAIN_USE = 0;
     private static final int SEEN_USE = 1;
     private static final String RAIN_NAMES = "hdkf";
@@ -365,7 +371,7 @@ public final class HoleWater {
         int cases = reader.casesOf(world.tape, use == RAIN_USE ? RAIN_NAMES : SEEN_NAMES);
         if (cases > 0) {
             Row old = use == RAIN_USE ? world.rainText : world.seenText;
-            old.copyOf(world.tape);
+            old.copyOf(reader.steps);
         }
         world.tape.count = 0;
         return cases;
@@ -825,9 +831,14 @@ public final class HoleWater {
         }
     }
 
-    /** Reads a TEXT byte by byte: where its FAULT is, or what it tells. */
+    /** Reads a TEXT once, byte by byte, into steps (or finds its FAULT); works steps out as often as they are asked. */
     private static final class Reader {
+        /** What the NAMES of a TEXT are, in their order. */
         final int[] values = new int[4];
+        /** The steps of the TEXT that was read last: what a sign joins stands ahead of it. */
+        final Row steps = new Row(MOST_STEPS);
+        private final int[] stack = new int[MOST_STEPS];
+        private int height = 0;
         private int[] bytes = new int[0];
         private int count = 0;
         private String names = RAIN_NAMES;
@@ -840,6 +851,7 @@ public final class HoleWater {
             for (int cases = 1; cases <= MOST_CASES; cases++) {
                 sum(0);
                 tests();
+                steps.add(CASE_ENDS);
                 if (faulty) {
                     return -10 - at;
                 }
@@ -853,27 +865,13 @@ public final class HoleWater {
             return -10 - at;
         }
 
-        /** What a TEXT without a FAULT tells. */
-        int toldBy(Row given, String known) {
-            begin(given, known);
-            for (int i = 0; i < MOST_CASES; i++) {
-                int told = sum(0);
-                if (tests()) {
-                    return told;
-                }
-                if (!take(';')) {
-                    return 0;
-                }
-            }
-            return 0;
-        }
-
         private void begin(Row given, String known) {
             bytes = given.items;
             count = Math.min(given.count, given.items.length);
             names = known;
             at = 0;
             faulty = false;
+            steps.count = 0;
         }
 
         private int next() {
@@ -888,67 +886,63 @@ public final class HoleWater {
             return true;
         }
 
-        private boolean tests() {
-            boolean hold = true;
+        private void tests() {
             boolean more = take('?');
             for (int i = 0; more && i < MOST_BYTES; i++) {
-                int left = sum(0);
+                sum(0);
                 int sign = take('<') ? '<' : take('=') ? '=' : take('>') ? '>' : 0;
                 faulty = faulty || sign == 0;
-                int right = sum(0);
-                hold = hold && (sign == '<' ? left < right : sign == '=' ? left == right : left > right);
+                sum(0);
+                steps.add(-sign);
+                steps.add(TEST_ENDS);
                 more = take('&');
             }
-            return hold;
         }
 
-        private int sum(int open) {
-            int v = term(open);
+        private void sum(int open) {
+            term(open);
             for (int i = 0; i < MOST_BYTES; i++) {
-                if (take('+')) {
-                    v += term(open);
-                } else if (take('-')) {
-                    v -= term(open);
-                } else {
-                    return v;
+                int sign = take('+') ? '+' : take('-') ? '-' : 0;
+                if (sign == 0) {
+                    return;
                 }
+                term(open);
+                steps.add(-sign);
             }
-            return v;
         }
 
-        private int term(int open) {
-            int v = one(open);
+        private void term(int open) {
+            one(open);
             for (int i = 0; i < MOST_BYTES; i++) {
-                if (take('*')) {
-                    v *= one(open);
-                } else if (take('/')) {
-                    v = by(v, one(open));
-                } else {
-                    return v;
+                int sign = take('*') ? '*' : take('/') ? '/' : 0;
+                if (sign == 0) {
+                    return;
                 }
+                one(open);
+                steps.add(-sign);
             }
-            return v;
         }
 
-        private int one(int open) {
+        private void one(int open) {
             if (faulty) {
-                return 0;
+                return;
             }
             if (isDigit(next())) {
-                return number();
+                steps.add(number());
+                return;
             }
             if (open < MOST_OPEN && take('(')) {
-                int v = sum(open + 1);
+                sum(open + 1);
                 faulty = !take(')');
-                return v;
+                return;
             }
             int name = next() < 0 ? -1 : names.indexOf((char) next());
-            if (name < 0 || name >= values.length) {
+            if (name < 0) {
                 faulty = true;
-                return 0;
+                return;
             }
             at++;
-            return values[name];
+            steps.add(FIRST_NAME + name);
         }
 
         private int number() {
@@ -962,6 +956,67 @@ public final class HoleWater {
 
         private static boolean isDigit(int sign) {
             return sign >= '0' && sign <= '9';
+        }
+
+        /** What a TEXT of some steps tells: the SUM of the first CASE whose TESTS all hold. */
+        int toldBy(Row given) {
+            height = 0;
+            boolean hold = true;
+            for (int i = 0; i < given.count; i++) {
+                int step = given.get(i);
+                if (step >= 0) {
+                    push(step < FIRST_NAME ? step : valueOf(step - FIRST_NAME));
+                } else if (step == TEST_ENDS) {
+                    hold = pop() == 1 && hold;
+                } else if (step != CASE_ENDS) {
+                    int right = pop();
+                    push(workOut(pop(), -step, right));
+                } else if (hold) {
+                    return pop();
+                } else {
+                    height = 0;
+                    hold = true;
+                }
+            }
+            return 0;
+        }
+
+        private int valueOf(int name) {
+            return name < 0 || name >= values.length ? 0 : values[name];
+        }
+
+        private void push(int v) {
+            if (height >= 0 && height < stack.length) {
+                stack[height] = v;
+                height++;
+            }
+        }
+
+        private int pop() {
+            if (height <= 0 || height > stack.length) {
+                return 0;
+            }
+            height--;
+            return stack[height];
+        }
+
+        private static int workOut(int left, int sign, int right) {
+            switch (sign) {
+                case '+':
+                    return left + right;
+                case '-':
+                    return left - right;
+                case '*':
+                    return left * right;
+                case '/':
+                    return by(left, right);
+                case '<':
+                    return left < right ? 1 : 0;
+                case '=':
+                    return left == right ? 1 : 0;
+                default:
+                    return left > right ? 1 : 0;
+            }
         }
     }
 
@@ -1157,8 +1212,9 @@ public final class HoleWater {
         final Water water = new Water();
         final Looks looks = new Looks();
         final Row tape = new Row(MOST_BYTES);
-        final Row rainText = new Row(MOST_BYTES);
-        final Row seenText = new Row(MOST_BYTES);
+        /** Steps of TEXTS, none without one. */
+        final Row rainText = new Row(MOST_STEPS);
+        final Row seenText = new Row(MOST_STEPS);
         final Row waits = new Row(MOST_WAITING);
 
         World() {
@@ -1260,7 +1316,7 @@ public final class HoleWater {
             reader.values[1] = when.now / DAY;
             reader.values[2] = hole;
             reader.values[3] = when.inFlood ? 1 : 0;
-            return held(reader.toldBy(rainText, RAIN_NAMES), 0, MOST_RAIN);
+            return held(reader.toldBy(rainText), 0, MOST_RAIN);
         }
 
         int seenAt(int spring, int colour, int sort, Reader reader) {
@@ -1270,7 +1326,7 @@ public final class HoleWater {
             reader.values[0] = water.lastOut[spring];
             reader.values[1] = colour;
             reader.values[2] = sort;
-            return held(reader.toldBy(seenText, SEEN_NAMES), 1, MOST_GRAINS);
+            return held(reader.toldBy(seenText), 1, MOST_GRAINS);
         }
 
         /** Whether JOINTS p and q are on unlike sides of the line from a to b, neither on it. */

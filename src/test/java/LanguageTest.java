@@ -8,7 +8,9 @@ import java.nio.file.Path;
 import java.util.ArrayList;
 import java.util.Arrays;
 import java.util.List;
+import java.util.Map;
 import java.util.Set;
+import java.util.TreeMap;
 import java.util.TreeSet;
 import java.util.regex.Matcher;
 import java.util.regex.Pattern;
@@ -19,6 +21,8 @@ public final class LanguageTest {
     private static final Path DOCUMENT = Path.of("../shared/DOC.md");
     private static final String[] BANNED = {"throw", "throws", "try", "catch", "finally", "synchronized", "assert", "volatile",
         "transient", "native", "System.out", "Exact", "->", "::", "Object", "hashCode", "toString", "var", "yield", "protected"};
+    private static final Set<String> VOICES = Set.of("runs", "holds", "spills", "tells");
+    private static final int MOST_DEEP = 8;
     private static int wrong = 0;
 
     private static void rule(boolean kept, String what) {
@@ -33,6 +37,8 @@ public final class LanguageTest {
         members();
         tokens();
         methodLengths();
+        callDepths();
+        voiceDepths();
         System.out.println(wrong == 0 ? "the face and the rules are kept" : wrong + " rules are not kept");
         if (wrong != 0) {
             System.exit(1);
@@ -126,21 +132,81 @@ public final class LanguageTest {
         rule(!Pattern.compile("while \\(true\\)|for \\(;;\\)").matcher(source).find(), "a loop without an end");
     }
 
-    private static void methodLengths() throws IOException {
+    /** The body of each method, by its name; those of one name together. */
+    private static Map<String, List<String>> bodies() throws IOException {
         String[] lines = bare().split("\n", -1);
-        Pattern start = Pattern.compile("^( {4}| {8})(?!return|else)(?:(?:private|public|static|final) )*[\\w\\[\\]]+ \\w+\\(.*");
-        int methods = 0;
+        Pattern start = Pattern.compile("^( {4}| {8})(?!return|else)(?:(?:private|public|static|final) )*[\\w\\[\\]]+ (\\w+)\\(.*");
+        Map<String, List<String>> all = new TreeMap<>();
         for (int i = 0; i < lines.length; i++) {
             Matcher matcher = start.matcher(lines[i]);
             if (matcher.matches()) {
-                methods++;
                 int end = i;
                 while (end < lines.length && !lines[end].equals(matcher.group(1) + "}")) {
                     end++;
                 }
-                rule(end - i < 60, "a method of more than sixty lines: " + lines[i]);
+                String body = String.join("\n", Arrays.copyOfRange(lines, i + 1, Math.min(end, lines.length)));
+                all.computeIfAbsent(matcher.group(2), name -> new ArrayList<>()).add(body);
+            }
+        }
+        return all;
+    }
+
+    private static void methodLengths() throws IOException {
+        int methods = 0;
+        for (Map.Entry<String, List<String>> one : bodies().entrySet()) {
+            for (String body : one.getValue()) {
+                methods++;
+                rule(body.lines().count() < 60, "a method of more than sixty lines: " + one.getKey());
             }
         }
         rule(methods > 100, "methods were not found: " + methods);
+    }
+
+    /** Calls go at most eight deep, each method of a recursion counted once, too; VOICES are counted as they are called. */
+    private static void callDepths() throws IOException {
+        Map<String, Set<String>> calls = new TreeMap<>();
+        Map<String, List<String>> bodies = bodies();
+        for (Map.Entry<String, List<String>> one : bodies.entrySet()) {
+            Set<String> called = new TreeSet<>();
+            Matcher name = Pattern.compile("(\\bnew )?\\b(\\w+)\\(").matcher(String.join("\n", one.getValue()));
+            while (name.find()) {
+                if (name.group(1) == null && bodies.containsKey(name.group(2)) && !VOICES.contains(name.group(2))) {
+                    called.add(name.group(2));
+                }
+            }
+            calls.put(one.getKey(), called);
+        }
+        rule(calls.get("hours").contains("passHour") && calls.get("text").contains("casesOf"), "calls were not found");
+        for (String name : calls.keySet()) {
+            List<String> deepest = deepest(name, calls, new ArrayList<>());
+            rule(deepest.size() <= MOST_DEEP, "calls go more than eight deep: " + deepest);
+        }
+    }
+
+    private static List<String> deepest(String name, Map<String, Set<String>> calls, List<String> above) {
+        above.add(name);
+        List<String> best = new ArrayList<>(above);
+        for (String called : calls.get(name)) {
+            if (!above.contains(called)) {
+                List<String> one = deepest(called, calls, above);
+                best = one.size() > best.size() ? one : best;
+            }
+        }
+        above.remove(above.size() - 1);
+        return best;
+    }
+
+    /** Of runs, holds and spills each BODY stands in the one ahead of it; voice() is above, what keeps THE TRACE below. */
+    private static void voiceDepths() {
+        HoleWater x = new HoleWater();
+        x.joint(0, 1, 9);
+        x.joint(2, 1, 1);
+        for (int kind = 0; kind < 6; kind++) {
+            rule(x.way(kind, 1, 1, 2) == kind, "a WAY of each KIND");
+            for (int act = 0; act < 3; act++) {
+                x.voice(kind, act, 1);
+                rule(x.count(8) > 0 && x.count(8) + 2 <= MOST_DEEP, "a VOICE goes more than eight deep: " + kind + ", " + act);
+            }
+        }
     }
 }
