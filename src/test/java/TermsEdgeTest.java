@@ -1196,6 +1196,19 @@ public final class TermsEdgeTest {
         is("pairs of which NOTHING is SAID may be in one", free.rooms(3, 3 << 6), 1);
         free.bottle(7, 0);
         is("one NOT YET parts them", free.rooms(3, 3 << 6), 2);
+        for (int s = 0; s < 4; s++) {
+            for (int h = 0; h < 2; h++) {
+                HoleWater apart = field(15 * (1 - h), 15 * h);
+                apart.put(0, 0, 100);
+                apart.put(1, 1, 100);
+                apart.hours(2);
+                apart.bottle(6 + s, 0);
+                apart.bottle(6 + s, 1);
+                is("HOLE " + h + " SURE at SPRING " + s, apart.joined(h, 6 + s, 0), 3);
+                is("the other one NOT YET there", apart.joined(1 - h, 6 + s, 0), 1);
+                is("1 pair is in 1 ROOM, whoever may not be in it", apart.rooms(3, 15 << 6), 1);
+            }
+        }
         of("Terms 4: one pair SURE among more");
         HoleWater one = new HoleWater();
         one.joint(SPRING, 0, 10);
@@ -1227,6 +1240,19 @@ public final class TermsEdgeTest {
         m.hours(2);
         m.bottle(6, 0);
         is("MAY alone needs none", m.rooms(3, 1 << 6), 0);
+        HoleWater both = field(3, 3);
+        both.put(0, 0, 100);
+        both.put(1, 1, 100);
+        both.put(0, 2, 100);
+        both.put(1, 2, 100);
+        both.hours(2);
+        both.bottle(6, 0);
+        both.bottle(7, 1);
+        both.bottle(6, 2);
+        both.bottle(7, 2);
+        is("0 at 6, 1 at 7 SURE", both.joined(0, 6, 0) + both.joined(1, 7, 0), 6);
+        is("0 at 7, 1 at 6 MAY", both.joined(0, 7, 0) + both.joined(1, 6, 0), 4);
+        is("MAY may be in one", both.rooms(3, 3 << 6), 1);
         of("Terms 4: 5 HOLES and 5 SPRINGS");
         HoleWater five = field(1, 2, 4, 8, 16);
         lookAll(five, 4, 31);
